@@ -39,6 +39,12 @@ final class Check {
         due(call + " throws ArithmeticException", thrown, true);
     }
 
+    void endIfWrong() {
+        if (wrong != 0) {
+            end();
+        }
+    }
+
     void end() {
         System.out.println(asked + " answers looked at, " + wrong + " of them wrong");
         if (wrong != 0 || asked == 0) {
