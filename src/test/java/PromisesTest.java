@@ -177,6 +177,17 @@ public final class PromisesTest {
         x.answer(1, 0);
         check.due("5 met", x.answer(2, 0), 0);
         check.due("5 one of two met", x.answer(5, 0), -3);
+        fresh();
+        for (int i = 0; i < 5; i++) {
+            x.test(1);
+        }
+        x.needs(1, 5);
+        x.needs(5, 2);
+        check.due("5 the fifth in between", x.needs(2, 1), -3);
+        x.answer(2, 0);
+        check.due("5 the fifth is needed", x.answer(1, 0), -3);
+        x.answer(5, 0);
+        check.due("5 the fifth has an answer", x.answer(1, 0), 0);
     }
 
     private void nextByTree() {
@@ -409,6 +420,7 @@ public final class PromisesTest {
         x.pair(6, 8);
         check.due("11 the twelfth", x.pair(6, 9), 12);
         check.due("11 the thirteenth", x.pair(7, 8), -4);
+        check.due("11 the twelfth again", x.pair(9, 6), -3);
         check.due("11 the thirteenth, there is one", x.pair(7, 6), -3);
     }
 
