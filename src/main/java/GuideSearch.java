@@ -32,7 +32,7 @@ public final class GuideSearch {
 
     // Every down of 1 .. 10 divides 2520, so priors are whole in units of 1 / 2520^2, pairs too.
     private static final long PRIOR_UNIT = 2520;
-    // Twelve to the power of MAX_TESTS: each answer may divide a weight by twelve and leave it whole.
+    // Twelve to the power of MAX_TESTS: each answer may divide a weight by twelve, it stays whole.
     private static final long ANSWER_UNIT = 248832;
     // Far above the steps that Euclid needs for two longs.
     private static final int MAX_DIVISIONS = 200;
@@ -245,7 +245,7 @@ public final class GuideSearch {
         return high;
     }
 
-    /** Faults and pairs, numbered together, and how often each was learned (slot 0: none of them). */
+    /** Faults and pairs, numbered together, how often each was learned (slot 0: none of them). */
     private static final class Causes {
         private final long[] priors = new long[MAX_CAUSES + 1];
         private final int[] members = new int[MAX_CAUSES + 1];
