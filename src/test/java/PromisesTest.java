@@ -1,8 +1,5 @@
 /** Each promise of the document: ordinary inputs, the edges that it names, wrong inputs. */
-public final class PromisesTest {
-    private final Check check = new Check();
-    private GuideSearch x = new GuideSearch();
-
+public final class PromisesTest extends Bench {
     public static void main(String[] args) {
         PromisesTest test = new PromisesTest();
         test.newObject();
@@ -26,33 +23,6 @@ public final class PromisesTest {
         test.fullTree();
         test.never();
         test.check.end();
-    }
-
-    private void fresh() {
-        x = new GuideSearch();
-    }
-
-    /** Two faults of 1 / 2 each. */
-    private void twoFaults() {
-        fresh();
-        x.fault(1, 2);
-        x.fault(1, 2);
-    }
-
-    private void row(int test, int cause, int zero, int one, int two) {
-        for (int a = 0; a < 3; a++) {
-            x.odds(test, cause, a, 0, 1);
-        }
-        x.odds(test, cause, 0, zero, 12);
-        x.odds(test, cause, 1, one, 12);
-        x.odds(test, cause, 2, two, 12);
-    }
-
-    /** A test that tells cause 2, by its answer 1, from all others. */
-    private int tellsTwo(int cost) {
-        int test = x.test(cost);
-        row(test, 2, 0, 12, 0);
-        return test;
     }
 
     private void newObject() {
@@ -194,11 +164,11 @@ public final class PromisesTest {
         twoFaults();
         check.due("6 below 0", x.next(-1), -2);
         check.due("6 far below 0", x.next(Long.MIN_VALUE), -2);
-        tellsTwo(400);
+        telling(2, 400);
         check.due("6 a test is made though the end would cost less", x.next(4), 1);
-        tellsTwo(400);
+        telling(2, 400);
         check.due("6 of equal ones the first", x.next(16), 1);
-        tellsTwo(399);
+        telling(2, 399);
         check.due("6 the least sum", x.next(Long.MAX_VALUE), 3);
         x.needs(3, 1);
         check.due("6 not one that needs another", x.next(64), 1);
@@ -211,14 +181,14 @@ public final class PromisesTest {
         x.fault(1, 2);
         x.fault(1, 4);
         x.fault(1, 4);
-        int one = tellsTwo(5);
+        int one = telling(2, 5);
         int free = x.test(0);
         check.due("6 a free test that tells nothing", x.next(16), one);
         check.due("6 likewise by one step", x.next(15), one);
         row(free, 3, 11, 1, 0);
         check.due("6 a free test comes first", x.next(16), free);
         check.due("6 likewise by one step", x.next(15), free);
-        int other = tellsTwo(0);
+        int other = telling(2, 0);
         check.due("6 the first of the free ones", x.next(64), free);
         x.needs(free, other);
         check.due("6 the first usable free one", x.next(64), other);
@@ -226,10 +196,10 @@ public final class PromisesTest {
 
     private void nextByOneStep() {
         twoFaults();
-        tellsTwo(10);
-        tellsTwo(10);
+        telling(2, 10);
+        telling(2, 10);
         check.due("6 equal gains over costs", x.next(0), 1);
-        tellsTwo(9);
+        telling(2, 9);
         check.due("6 the same gain for less", x.next(63), 3);
         row(3, 2, 6, 6, 0);
         check.due("6 half the gain for nearly as much", x.next(63), 1);
@@ -263,8 +233,8 @@ public final class PromisesTest {
 
     private void answer() {
         twoFaults();
-        tellsTwo(1);
-        tellsTwo(1);
+        telling(2, 1);
+        telling(2, 1);
         x.test(1);
         check.due("7 test 0", x.answer(0, 0), -1);
         check.due("7 test 4", x.answer(4, 9), -1);
@@ -338,7 +308,7 @@ public final class PromisesTest {
     private void cost() {
         twoFaults();
         check.due("10 before one", x.cost(), -1);
-        tellsTwo(7);
+        telling(2, 7);
         x.next(4);
         check.due("10 by a tree", x.cost(), 7000);
         x.next(-1);
@@ -452,12 +422,6 @@ public final class PromisesTest {
         for (int n = 4; n <= 9; n++) {
             check.due("12 none of them, beyond 5", x.learn(0), n);
         }
-    }
-
-    private void node(int i, int test, int left, int answer) {
-        check.due("13 test of " + i, x.tree(i, 0), test);
-        check.due("13 left at " + i, x.tree(i, 1), left);
-        check.due("13 answer of " + i, x.tree(i, 2), answer);
     }
 
     private void tree() {
