@@ -39,6 +39,10 @@ final class Check {
         due(call + " throws ArithmeticException", thrown, true);
     }
 
+    int asked() {
+        return asked;
+    }
+
     void endIfWrong() {
         if (wrong != 0) {
             end();

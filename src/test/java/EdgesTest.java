@@ -556,16 +556,20 @@ public final class EdgesTest extends Bench {
     }
 
     private void answerBeforeItsNeeds() {
-        twoFaults();
-        tests(5, 1);
-        for (int other = 1; other <= 4; other++) {
-            x.needs(5, other);
+        for (int test = 1; test <= 5; test++) {
+            twoFaults();
+            tests(5, 1);
+            for (int other = 1; other <= 5; other++) {
+                x.needs(test, other);
+            }
+            for (int other = 1; other <= 5; other++) {
+                if (other != test) {
+                    check.due("7 a need of " + test + " has none", x.answer(test, 0), -3);
+                    check.due("7 the need itself", x.answer(other, 0), 2);
+                }
+            }
+            check.due("7 all needs of " + test + " have one", x.answer(test, 0), 2);
         }
-        for (int other = 4; other >= 1; other--) {
-            check.due("7 a need has none", x.answer(5, 0), -3);
-            check.due("7 the need itself", x.answer(other, 0), 2);
-        }
-        check.due("7 all needs have one", x.answer(5, 0), 2);
     }
 
     private void answerOfATestThatIsNotUsable() {

@@ -2,7 +2,12 @@ import java.util.Random;
 
 /** Random runs of calls, from fixed seeds, on GuideSearch and on Reference: the same answers. */
 public final class ReferenceTest {
-    private static final int RUNS = 400;
+    private static final int RUNS = 1000;
+    // What a guide answers behind its 512th call is free, so a run ends before it.
+    private static final int MAX_CALLS = 512;
+    // More calls than any step makes: next, exact, cost, how many nodes, and some of the nodes.
+    private static final int STEP_CALLS = 30;
+    private static final int NODES_ASKED = 8;
     private static final int[] DOWNS = {1, 2, 3, 4, 6, 12};
     private static final long[] ODD_LONGS = {
         Long.MIN_VALUE, Long.MAX_VALUE, -1, 1L << 32, (1L << 32) + 1, 0};
@@ -27,7 +32,7 @@ public final class ReferenceTest {
             if (run % 2 == 0) {
                 test.fill();
             }
-            for (int i = 0; i < 150; i++) {
+            while (test.check.asked() <= MAX_CALLS - STEP_CALLS) {
                 test.step();
             }
             test.check.endIfWrong();
@@ -143,7 +148,10 @@ public final class ReferenceTest {
         same("next(" + steps + ")", guide.next(steps), due.next(steps));
         same("exact()", guide.exact() ? 1 : 0, due.exact() ? 1 : 0);
         same("cost()", guide.cost(), due.cost());
-        for (int i = -2; i <= 301; i++) {
+        askTree(-1, 0);
+        int nodes = due.tree(-1, 0);
+        for (int n = 0; n < NODES_ASKED && n <= nodes; n++) {
+            int i = nodes < NODES_ASKED ? n : random.nextInt(nodes + 1);
             for (int what = 0; what < 3; what++) {
                 askTree(i, what);
             }

@@ -22,6 +22,7 @@ public final class TermsTest extends Bench {
         priorOfAPair();
         learnedTimesThatCount();
         learnedTimesOfAPair();
+        learnedTimesOfAPairsFaults();
         learnedTimesOfTheTwelfth();
     }
 
@@ -53,7 +54,10 @@ public final class TermsTest extends Bench {
     private void trees() {
         valueAtTheEnd();
         valueOfAnEmptyCase();
+        valueBehindFiveTests();
+        valueOfTwelveCauses();
         freeTestThoughItIsDearer();
+        firstTestIsFreeThoughDearer();
         firstOfTheFreeTests();
         freeTestThatIsNotUsable();
         leastSum();
@@ -71,6 +75,7 @@ public final class TermsTest extends Bench {
     private void oneStep() {
         equalRatios();
         nearRatios();
+        nearestRatios();
         noGain();
         losses();
         gainInThisCase();
@@ -179,6 +184,18 @@ public final class TermsTest extends Bench {
                     times % 2 == 0 ? (times + 2) / 2 : times + 2);
         }
         check.dueOdd("its faults were not learned", x, 1, 1, 8);
+    }
+
+    private void learnedTimesOfAPairsFaults() {
+        fresh();
+        faults(3, 1, 1);
+        x.pair(1, 2);
+        x.learn(1);
+        x.learn(1);
+        x.pair(1, 3);
+        check.dueOdd("the fault counts three times", x, 1, 3, 7);
+        check.dueOdd("its older pair once", x, 4, 1, 7);
+        check.dueOdd("its younger pair once too", x, 5, 1, 7);
     }
 
     private void learnedTimesOfTheTwelfth() {
@@ -448,6 +465,30 @@ public final class TermsTest extends Bench {
         check.due("they have no nodes", x.tree(-1, 0), 2);
     }
 
+    private void valueBehindFiveTests() {
+        twoFaults();
+        for (int test = 1; test <= 5; test++) {
+            x.test(1);
+            row(test, 2, 6, 6, 0);
+        }
+        x.next(1024);
+        // 1 + 3/4 + 5/8 + 9/16 + 17/32 for the tests, 300 * 33/64 for both left at the end
+        check.due("the end behind five answers", x.cost(), 158156);
+        node(5, 0, 2, 0);
+        node(6, 0, 1, 1);
+    }
+
+    private void valueOfTwelveCauses() {
+        twelveCauses();
+        telling(12, 7);
+        x.next(4);
+        // 7 + 3000 * (19/4) / 5
+        check.due("eleven left behind answer 0", x.cost(), 2857000);
+        node(0, 1, 12, -1);
+        node(1, 0, 11, 0);
+        node(2, 0, 1, 1);
+    }
+
     private void freeTestThoughItIsDearer() {
         fresh();
         x.fault(1, 4);
@@ -462,6 +503,20 @@ public final class TermsTest extends Bench {
         dueNext("the free test goes before it", 2);
         x.next(16);
         check.due("though 1 and 2 stay together then", x.cost(), 150000);
+    }
+
+    private void firstTestIsFreeThoughDearer() {
+        fresh();
+        x.fault(1, 4);
+        x.fault(1, 4);
+        x.fault(1, 2);
+        telling(3, 0);
+        x.test(1);
+        row(2, 1, 0, 0, 0);
+        row(2, 2, 0, 0, 0);
+        dueNext("the free test is the first of all", 1);
+        x.next(16);
+        check.due("1 and 2 stay together then too", x.cost(), 150000);
     }
 
     private void firstOfTheFreeTests() {
@@ -611,6 +666,26 @@ public final class TermsTest extends Bench {
         check.due("11/400 is more than 10/364", x.next(0), 1);
         gains(new int[] {1, 400}, new int[] {1, 399}, new int[] {1, 400});
         check.due("1/399 is the most", x.next(0), 2);
+    }
+
+    /** Gains of 1/7 * 1152/1728 for 365 and of 1/8 * 1331/1728 for 369: 3400704 to 3400705. */
+    private void nearestRatios() {
+        int[] twelfths = {8, 12, 12};
+        for (int better = 4; better <= 5; better++) {
+            fresh();
+            x.fault(1, 1);
+            x.fault(1, 7);
+            x.fault(1, 8);
+            for (int test = 1; test <= 3; test++) {
+                x.test(1);
+                x.odds(test, 2, 0, twelfths[test - 1], 12);
+                x.odds(test, 3, 0, 11, 12);
+                x.answer(test, 0);
+            }
+            telling(better == 4 ? 3 : 2, better == 4 ? 369 : 365);
+            telling(better == 4 ? 2 : 3, better == 4 ? 365 : 369);
+            check.due("a gain greater by so little", x.next(0), better);
+        }
     }
 
     /** A test with which the first of two equal faults is the likelier behind each answer. */
