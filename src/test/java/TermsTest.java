@@ -39,6 +39,7 @@ public final class TermsTest extends Bench {
         usableByNeedsOfItsOwn();
         usableByOneOfItsAnswers();
         usableByCausesThatAreLeft();
+        usableWithTheFirstCauseOut();
         usableByTheLastCause();
     }
 
@@ -63,6 +64,7 @@ public final class TermsTest extends Bench {
         leastSum();
         equalSums();
         equalSumsFurtherDown();
+        equalSumsOfUnlikeTrees();
         costTimesTheWeightOfTheCase();
     }
 
@@ -370,6 +372,18 @@ public final class TermsTest extends Bench {
         dueNext("and so it does not count", 0);
     }
 
+    private void usableWithTheFirstCauseOut() {
+        fresh();
+        faults(3, 1, 3);
+        int first = telling(1, 1);
+        int second = x.test(1);
+        row(second, 1, 11, 1, 0);
+        check.due("the first is out", x.answer(first, 0), 2);
+        dueNext("only it differs from the others", 0);
+        row(second, 3, 11, 0, 0);
+        dueNext("the third differs from the second", second);
+    }
+
     private void usableByTheLastCause() {
         twelveCauses();
         int first = telling(12, 1);
@@ -570,6 +584,24 @@ public final class TermsTest extends Bench {
         x.next(64);
         node(1, 2, 2, 0);
         check.due("5 and two thirds of 5", x.cost(), 8333);
+    }
+
+    /** By two tests of 10, the second for half of the weight, or by one of 15. */
+    private void equalSumsOfUnlikeTrees() {
+        for (int big = 1; big <= 2; big++) {
+            fresh();
+            x.fault(1, 4);
+            x.fault(1, 4);
+            x.fault(1, 2);
+            for (int test = 1; test <= 2; test++) {
+                telling(3, test == big ? 15 : 10);
+            }
+            row(big, 1, 0, 0, 12);
+            telling(1, 10);
+            check.due("both ways cost 15", x.next(64), 1);
+            check.due("both ways cost 15", x.cost(), 15000);
+            check.due("the nodes of the first way", x.tree(-1, 0), big == 1 ? 4 : 5);
+        }
     }
 
     private void costTimesTheWeightOfTheCase() {
