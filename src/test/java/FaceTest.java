@@ -13,7 +13,8 @@ import java.util.TreeSet;
 public final class FaceTest {
     private static final Set<String> FACE = new TreeSet<>(Arrays.asList(
             "int fault(long,long)", "int test(long)", "int odds(int,int,int,long,long)",
-            "int needs(int,int)", "int next(long)", "int answer(int,int)", "long odd(int,int)",
+            "int needs(int,int)", "int next(long)", "int answer(int,int)",
+            "long odd(int,int) throws class java.lang.ArithmeticException",
             "boolean exact()", "long cost()", "int pair(int,int)", "int learn(int)",
             "int tree(int,int)", "int never(int)"));
 
@@ -27,7 +28,9 @@ public final class FaceTest {
         FaceTest test = new FaceTest();
         test.members(GuideSearch.class);
         test.nested();
-        test.words(Files.readString(Path.of("src/main/java/GuideSearch.java")));
+        String source = Files.readString(Path.of("src/main/java/GuideSearch.java"));
+        test.words(source);
+        test.written(Files.readString(Path.of("../shared/DOC.md")), source);
         test.check.end();
     }
 
@@ -38,6 +41,8 @@ public final class FaceTest {
         for (Method method : face.getDeclaredMethods()) {
             if (!Modifier.isPrivate(method.getModifiers())) {
                 seen.add(told(method));
+                check.due(method + " is an object's", Modifier.isStatic(method.getModifiers()),
+                        false);
             }
         }
         check.due("the face is " + seen, seen.equals(FACE), true);
@@ -49,6 +54,7 @@ public final class FaceTest {
         check.due("constructors", constructors.length, 1);
         check.due("the constructor is public", Modifier.isPublic(constructors[0].getModifiers()),
                 true);
+        check.due("the constructor takes", constructors[0].getParameterCount(), 0);
     }
 
     private static String told(Method method) {
@@ -57,7 +63,11 @@ public final class FaceTest {
         for (int i = 0; i < method.getParameterCount(); i++) {
             text.append(i == 0 ? "" : ",").append(method.getParameterTypes()[i]);
         }
-        return text.append(')').toString();
+        text.append(')');
+        for (Class<?> thrown : method.getExceptionTypes()) {
+            text.append(" throws ").append(thrown);
+        }
+        return text.toString();
     }
 
     private void nested() {
@@ -74,6 +84,21 @@ public final class FaceTest {
                         names.contains(method.getName()), false);
             }
         }
+    }
+
+    /** Each line of the document's face stands in the source, with its parameters' names. */
+    private void written(String document, String source) {
+        int start = document.indexOf("```java\n") + "```java\n".length();
+        String face = document.substring(start, document.indexOf("```", start));
+        int lines = 0;
+        for (String line : face.split("\n")) {
+            if (line.strip().startsWith("public ")) {
+                lines++;
+                String head = line.strip().replace(";", " {").replace("{", "{\n");
+                check.due("the source has " + line.strip(), source.contains(head), true);
+            }
+        }
+        check.due("lines of the face", lines, FACE.size() + 2);
     }
 
     private void words(String source) {
